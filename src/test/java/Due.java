@@ -1,0 +1,48 @@
+/** Counts the answers that are not as due, and feeds whole texts. */
+final class Due {
+    private int wrong;
+    private int asked;
+
+    void is(String call, long want, long got) {
+        asked++;
+        if (got != want) {
+            wrong++;
+            System.out.println(call + " answered " + got + ", due is " + want);
+        }
+    }
+
+    void text(LockTurns x, String text, int want) {
+        feed(x, text);
+        is("text() of '" + text + "'", want, x.text());
+    }
+
+    /** A text that is refused by a fault at a place. */
+    void faulty(LockTurns x, String text, int fault, int place) {
+        text(x, text, -10 - place);
+        is("fault() of '" + text + "'", fault, x.fault());
+    }
+
+    static void feed(LockTurns x, String text) {
+        for (int i = 0; i < text.length(); i++) {
+            x.feed(text.charAt(i));
+        }
+    }
+
+    static LockTurns told(String text) {
+        LockTurns x = new LockTurns();
+        feed(x, text);
+        int lines = x.text();
+        if (lines < 0) {
+            throw new IllegalStateException("text() answered " + lines + " for '" + text + "'");
+        }
+        return x;
+    }
+
+    void end() {
+        if (wrong != 0) {
+            System.out.println(wrong + " of " + asked + " answers are not as due");
+            System.exit(1);
+        }
+        System.out.println(asked + " answers, all as due");
+    }
+}
