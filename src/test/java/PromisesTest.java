@@ -675,6 +675,12 @@ public final class PromisesTest {
         x.see(1, 1);
         due.is("all but one", 19, x.fits(0));
         due.is("fits(1)", 31, x.fits(1));
+        LockTurns y = Due.told("above coal 3 1 0;above fish 1 1 0;above mail 0 1 0;");
+        y.see(1, 0);
+        due.is("only the first can have lied itself ahead", 2, y.fits(0));
+        due.is("fits(1)", 8, y.fits(1));
+        due.is("fits(2)", 1, y.fits(2));
+        due.is("fits(3)", 2, y.fits(3));
     }
 
     private static void drift() {
