@@ -571,10 +571,10 @@ public final class LockTurns {
             return BAD;
         }
         Sheet sheet = sheets[k];
-        int fault = sheet.faultAs(lane);
+        int fault = 0;
         int whole = 0;
         for (int i = 0; i < n && fault == 0; i++) {
-            fault = sheet.faultOfPair(f + 2 * i);
+            fault = sheet.faultOfPair(lane, f + 2 * i);
             if (fault == 0) {
                 if (!isComing(sheet, f + 2 * i)) {
                     return -20 - i;
@@ -1241,14 +1241,13 @@ public final class LockTurns {
             return within(i, 0, size - 1) ? 0 : INDEX_FAULT;
         }
 
-        int faultOfPair(int i) {
+        /** Of two cells, taken as of a lane; the machine casts nothing to any lane, so that is no CAST. */
+        int faultOfPair(int asLane, int i) {
+            if (!isNothing() && lane != asLane) {
+                return CAST_FAULT;
+            }
             int fault = faultAt(i);
             return fault != 0 ? fault : faultAt(i + 1);
-        }
-
-        /** The machine casts nothing to any lane: that is found only when a cell is asked for. */
-        int faultAs(int asLane) {
-            return isNothing() || lane == asLane ? 0 : CAST_FAULT;
         }
     }
 }

@@ -67,6 +67,7 @@ public final class EdgesTest {
             }
             String call = method.getName() + Arrays.toString(arguments);
             due.is(call, ((Number) same.invoke(m, arguments)).longValue(), answer(x, method, call, arguments));
+            due.is("torn() behind " + call, m.torn(), x.torn());
         }
     }
 

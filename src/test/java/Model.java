@@ -689,13 +689,14 @@ final class Model {
         }
     }
 
-    private void readInto(List<int[]> pairs, Object row, int lane, int f, int n) {
-        byte[] bytes = lane == 0 ? (byte[]) row : null;
-        short[] shorts = lane == 1 ? (short[]) row : null;
-        int[] ints = lane == 2 ? (int[]) row : null;
+    private static int cell(Object row, int lane, int i) {
+        return lane == 0 ? ((byte[]) row)[i] : lane == 1 ? ((short[]) row)[i] : ((int[]) row)[i];
+    }
+
+    /** The row is cast anew for each cell: of none that is read the machine refuses nothing. */
+    private static void readInto(List<int[]> pairs, Object row, int lane, int f, int n) {
         for (int i = f; pairs.size() < n; i += 2) {
-            pairs.add(lane == 0 ? new int[] {bytes[i], bytes[i + 1]}
-                    : lane == 1 ? new int[] {shorts[i], shorts[i + 1]} : new int[] {ints[i], ints[i + 1]});
+            pairs.add(new int[] {cell(row, lane, i), cell(row, lane, i + 1)});
         }
     }
 

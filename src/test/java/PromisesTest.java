@@ -50,6 +50,7 @@ public final class PromisesTest {
         lay();
         read();
         torn();
+        tornByNone();
         count();
         due.end();
     }
@@ -842,6 +843,43 @@ public final class PromisesTest {
         due.is("torn() is of read() alone", 2, x.torn());
         due.is("a whole one", 1, x.read(1, 2, 0, 1));
         due.is("torn()", 0, x.torn());
+    }
+
+    /** Nothing is read by n 0, so it has no fault, whatever the sheet, the lane, the cell; by n above 0 it has. */
+    private static void tornByNone() {
+        int[] froms = {MIN, -1, 0, 1, 39, 40, MAX};
+        for (int k = 0; k < 4; k++) {
+            for (int of = -1; of < 3; of++) {
+                for (int size = 0; size <= (of < 0 ? 0 : 40); size += 20) {
+                    LockTurns x = Due.told("above mail 5 1 0;");
+                    if (of >= 0) {
+                        x.sheet(k, of, size);
+                    }
+                    for (int as = 0; as < 3; as++) {
+                        String sheet = "sheet " + k + " of lane " + of + " and " + size + " as of lane " + as;
+                        for (int from : froms) {
+                            due.is("read of none, " + sheet, 0, x.read(k, as, from, 0));
+                            due.is("torn(), " + sheet + " from " + from, 0, x.torn());
+                        }
+                        if (of != as) {
+                            tornBySome(x, sheet, k, as, of < 0 ? 1 : 3);
+                        }
+                    }
+                    due.is("none came", 5, x.boat(0, 2));
+                }
+            }
+        }
+    }
+
+    private static void tornBySome(LockTurns x, String sheet, int k, int as, int fault) {
+        for (int n = 1; n <= 20; n++) {
+            due.is("read of " + n + ", " + sheet, 0, x.read(k, as, n % 5 - 1, n));
+            due.is("torn(), " + sheet, fault, x.torn());
+            due.is("BAD stays torn", BAD, x.read(k, as, 0, 21));
+            due.is("torn(), " + sheet, fault, x.torn());
+        }
+        due.is("read of none behind, " + sheet, 0, x.read(k, as, 0, 0));
+        due.is("torn(), " + sheet, 0, x.torn());
     }
 
     private static void count() {
