@@ -2,12 +2,18 @@
 final class Due {
     private int wrong;
     private int asked;
+    private String during = "";
+
+    /** What is told ahead of each wrong answer from now on. */
+    void during(String test) {
+        during = test + ": ";
+    }
 
     void is(String call, long want, long got) {
         asked++;
         if (got != want) {
             wrong++;
-            System.out.println(call + " answered " + got + ", due is " + want);
+            System.out.println(during + call + " answered " + got + ", due is " + want);
         }
     }
 
@@ -20,6 +26,19 @@ final class Due {
     void faulty(LockTurns x, String text, int fault, int place) {
         text(x, text, -10 - place);
         is("fault() of '" + text + "'", fault, x.fault());
+    }
+
+    /** The same of a new one. */
+    void faulty(String text, int fault, int place) {
+        faulty(new LockTurns(), text, fault, place);
+    }
+
+    /** A new one that takes a text of so many lines. */
+    LockTurns taken(String text, int lines) {
+        LockTurns x = new LockTurns();
+        text(x, text, lines);
+        is("fault() of '" + text + "'", 0, x.fault());
+        return x;
     }
 
     static void feed(LockTurns x, String text) {

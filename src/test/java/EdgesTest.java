@@ -15,41 +15,72 @@ public final class EdgesTest {
         "above mail 3 1 9;below beer 0 9 0;liar 1;law twos;post 9;",
         "lock 9 9 1;above mail 9 1 2;below fish 1 2 9;above beer 0 3 0;below coal 5 4 4;above coal 1 5 3;"
             + "below mail 3 9 1;law cargo;hand;liar 4;liar 1;"};
+    /** An object is made anew in time: what it answers behind its 512th call is free. */
+    private static final int CALLS = 500;
     private static final Due due = new Due();
 
+    private final String state;
+    private final boolean rich;
+    private LockTurns x;
+    private Model m;
+    private int calls;
+
+    private EdgesTest(String state, boolean rich) {
+        this.state = state;
+        this.rich = rich;
+    }
+
     public static void main(String[] args) throws ReflectiveOperationException {
+        Method[] methods = LockTurns.class.getDeclaredMethods();
+        Arrays.sort(methods, Comparator.comparing(Method::getName));
         for (String state : STATES) {
-            LockTurns x = new LockTurns();
-            Model m = new Model();
-            for (int i = 0; i < state.length(); i++) {
-                x.feed(state.charAt(i));
-                m.feed(state.charAt(i));
-            }
-            Method[] methods = LockTurns.class.getDeclaredMethods();
-            Arrays.sort(methods, Comparator.comparing(Method::getName));
-            for (int round = 0; round < 2; round++) {
-                due.is("text()", m.text(), x.text());
+            for (boolean rich : new boolean[] {false, true}) {
+                EdgesTest test = new EdgesTest(state, rich);
+                test.renew();
                 for (Method method : methods) {
-                    if (Modifier.isPublic(method.getModifiers()) && !method.getName().equals("text")) {
-                        everyMixture(x, m, method);
+                    if (Modifier.isPublic(method.getModifiers())) {
+                        test.everyMixture(method);
                     }
                 }
-                refill(x, m, state);
             }
         }
         due.end();
     }
 
-    private static void refill(LockTurns x, Model m, String state) {
-        x.end(0);
-        m.end(0);
-        for (int i = 0; i < state.length(); i++) {
-            x.feed(state.charAt(i));
-            m.feed(state.charAt(i));
+    private void renew() {
+        x = new LockTurns();
+        m = new Model();
+        calls = 0;
+        feed(state);
+        due.is("text()", m.text(), x.text());
+        if (rich) {
+            enrich();
         }
     }
 
-    private static void everyMixture(LockTurns x, Model m, Method method) throws ReflectiveOperationException {
+    private void feed(String text) {
+        for (int i = 0; i < text.length(); i++) {
+            due.is("feed", m.feed(text.charAt(i)), x.feed(text.charAt(i)));
+            calls++;
+        }
+    }
+
+    /** Rows of each lane, some images, some seen, a few bytes. */
+    private void enrich() {
+        for (int k = 0; k < 3; k++) {
+            due.is("sheet", m.sheet(k, k, 6), x.sheet(k, k, 6));
+            for (int i = 0; i < 6; i++) {
+                due.is("lay", m.lay(k, i, i / 2), x.lay(k, i, i / 2));
+            }
+        }
+        due.is("see", m.see(0, 0), x.see(0, 0));
+        due.is("keep", m.keep(1), x.keep(1));
+        due.is("set", m.set(3, 3), x.set(3, 3));
+        feed("post 9;");
+        calls += 25;
+    }
+
+    private void everyMixture(Method method) throws ReflectiveOperationException {
         Class<?>[] types = method.getParameterTypes();
         Method same = Model.class.getDeclaredMethod(method.getName(), types);
         int[] edges = types.length > 1 ? FEW : MANY;
@@ -65,14 +96,17 @@ public final class EdgesTest {
                 rest /= edges.length;
                 arguments[i] = types[i] == boolean.class ? (Object) (edge > 0) : (Object) edge;
             }
+            if (calls > CALLS) {
+                renew();
+            }
             String call = method.getName() + Arrays.toString(arguments);
-            due.is(call, ((Number) same.invoke(m, arguments)).longValue(), answer(x, method, call, arguments));
+            due.is(call, ((Number) same.invoke(m, arguments)).longValue(), answer(method, call, arguments));
             due.is("torn() behind " + call, m.torn(), x.torn());
+            calls += 2;
         }
     }
 
-    private static long answer(LockTurns x, Method method, String call, Object[] arguments)
-            throws IllegalAccessException {
+    private long answer(Method method, String call, Object[] arguments) throws IllegalAccessException {
         try {
             return ((Number) method.invoke(x, arguments)).longValue();
         } catch (InvocationTargetException e) {

@@ -2,8 +2,10 @@ import java.util.Random;
 
 /** Runs of calls by a seed, on the class and on the model: each answer, and then the whole state. */
 public final class ModelTest {
-    private static final int RUNS = 1500;
+    private static final int RUNS = 2500;
     private static final int CALLS = 60;
+    /** Behind so many calls a long text and the whole state still fit into the 512 that the document grants. */
+    private static final int CALLS_IN_ALL = 250;
     private static final String[] CARGOS = {"mail", "fish", "beer", "coal"};
     private static final String[] LAWS = {"gate", "ready", "twos", "cargo", "queue"};
     private static final Due due = new Due();
@@ -14,6 +16,7 @@ public final class ModelTest {
     private final String name;
     /** How far apart boats arrive at most: close together laws matter, far apart the lock is idle. */
     private final int spread;
+    private int calls;
 
     private ModelTest(int seed) {
         random = new Random(seed);
@@ -30,7 +33,7 @@ public final class ModelTest {
 
     private void run() {
         tell(text(random.nextInt(7)));
-        for (int i = 0; i < CALLS; i++) {
+        for (int i = 0; i < CALLS && calls < CALLS_IN_ALL; i++) {
             call(random.nextInt(45));
         }
         compareState();
@@ -120,12 +123,14 @@ public final class ModelTest {
         for (int i = 0; i < text.length(); i++) {
             x.feed(text.charAt(i));
             m.feed(text.charAt(i));
+            calls++;
         }
         check("text() of '" + m.tape + "'", m.text(), x.text());
         check("fault()", m.fault(), x.fault());
     }
 
     private void check(String call, long want, long got) {
+        calls++;
         due.is(name + call, want, got);
     }
 

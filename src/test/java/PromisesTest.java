@@ -268,14 +268,14 @@ public final class PromisesTest {
         LockTurns x = new LockTurns();
         String six = "above mail 1 1 1;below mail 1 1 1;above mail 1 1 1;below mail 1 1 1;above mail 1 1 1;"
                 + "below mail 1 1 1;";
-        due.faulty(x, six + "above mail 1 1 1;", 5, 102);
-        due.faulty(x, six + " below", 5, 103);
-        due.faulty(x, six + "law x;", 2, 106);
+        due.faulty(six + "above mail 1 1 1;", 5, 102);
+        due.faulty(six + " below", 5, 103);
+        due.faulty(six + "law x;", 2, 106);
         due.text(x, six + "liar 5;", 7);
         due.is("rule(6)", 6, x.rule(6));
-        due.faulty(x, "liar 0;", 6, 7);
-        due.faulty(x, "above mail 1 1 1;liar 1; ", 6, 25);
-        due.faulty(x, "liar 1;above mail 1 1 1;liar 9;", 3, 29);
+        due.faulty("liar 0;", 6, 7);
+        due.faulty("above mail 1 1 1;liar 1; ", 6, 25);
+        due.faulty("liar 1;above mail 1 1 1;liar 9;", 3, 29);
         due.text(x, "liar 1;above mail 1 1 1;above mail 1 1 1;", 3);
         due.is("rule(7)", 2, x.rule(7));
         due.is("boat(1, 5)", 1, x.boat(1, 5));
