@@ -5,8 +5,8 @@ public final class RoomTest {
     private static final int OBJECTS = 1000;
     /** The fields and elements of one object take some 4,600 bytes. */
     private static final long BYTES_OF_ONE = 10_000;
-    /** What the machine itself may make while it measures. */
-    private static final long SLACK = 4_096;
+    /** What the machine itself may make while it measures; one small object a round would be 16,000 bytes. */
+    private static final long SLACK = 12_000;
     private static final String TEXT = "lock9 9 1;above mail0 9 1;below fish1 8 2;above beer2 7 3;below coal3 6 4;"
             + "above mail4 5 5;below fish5 4 6;law cargo;hand;liar1;liar3;liar4;";
     private static final Due due = new Due();
