@@ -26,6 +26,8 @@ public final class LockTurns {
     private static final int SHEETS = 4;
 
     private static final int COST = 0, WATER = 2, LAST = 3, MEASURES = 5;
+    /** More than any minute and any cost of a day can be. */
+    private static final int BEYOND_ALL = 1000000;
 
     private static final int MINUTES_AHEAD = 9;
     private static final int MINUTES_LATER = 60;
@@ -200,7 +202,7 @@ public final class LockTurns {
             return BAD;
         }
         int best = 0;
-        int least = Integer.MAX_VALUE;
+        int least = BEYOND_ALL;
         for (int law = 0; law < LAWS; law++) {
             run.by(now, law, now.liars, 0);
             int is = run.measure(what);
@@ -330,7 +332,7 @@ public final class LockTurns {
         }
         trial.copyFrom(now);
         int best = 0;
-        int least = Integer.MAX_VALUE;
+        int least = BEYOND_ALL;
         for (int out = 0; out <= MINUTES_AHEAD; out++) {
             trial.rules[POST] = out;
             runAsTold(trial);
@@ -822,7 +824,7 @@ public final class LockTurns {
         }
 
         private void waitForOne(int boats) {
-            int first = Integer.MAX_VALUE;
+            int first = BEYOND_ALL;
             for (int b = 0; b < boats; b++) {
                 if ((gone >> b & 1) == 0) {
                     first = Math.min(first, counts[b]);
@@ -932,7 +934,7 @@ public final class LockTurns {
         }
 
         void seekLeastCost(Lock lock) {
-            cost = Integer.MAX_VALUE;
+            cost = BEYOND_ALL;
             seek(lock, 0, 0, 0, lock.rules[READY], 0);
         }
 

@@ -17,6 +17,23 @@ final class Due {
         }
     }
 
+    void holds(String what, boolean is) {
+        asked++;
+        if (!is) {
+            wrong++;
+            System.out.println(during + what + ": does not hold");
+        }
+    }
+
+    /** All that was found is wrong. */
+    void none(String what, Iterable<String> found) {
+        asked++;
+        for (String one : found) {
+            wrong++;
+            System.out.println(during + what + ": " + one);
+        }
+    }
+
     void text(LockTurns x, String text, int want) {
         feed(x, text);
         is("text() of '" + text + "'", want, x.text());

@@ -1,4 +1,4 @@
-/** One method for each promise (or a few that only show together), with answers worked out by hand. */
+/** Each promise by its whole words, with answers worked out by hand. */
 public final class PromisesTest {
     private static final int BAD = LockTurns.BAD, STATE = LockTurns.STATE, FULL = LockTurns.FULL,
             NONE = LockTurns.NONE;
@@ -12,47 +12,7 @@ public final class PromisesTest {
     private static final String FISH_AND_COAL = "above fish 0 1 0; above coal 0 1 0; law cargo;";
 
     public static void main(String[] args) {
-        aNewObject();
-        feed();
-        end();
-        textTaken();
-        textStays();
-        faultNoToken();
-        faultOutOfPlace();
-        faultOutOfBounds();
-        faultTwice();
-        faultBoats();
-        rule();
-        boat();
-        set();
-        alter();
-        lie();
-        cross();
-        aDay();
-        anIdleLock();
-        table();
-        best();
-        order();
-        firsts();
-        gain();
-        calmAndRests();
-        boy();
-        post();
-        late();
-        deal();
-        mean();
-        luck();
-        seeAndForget();
-        fits();
-        drift();
-        images();
-        sheets();
-        lay();
-        read();
-        torn();
-        tornByNone();
-        count();
-        due.end();
+        Sentences.run(PromisesTest.class, due, 1, 39);
     }
 
     private static void row(String call, int[] want, int[] got) {
@@ -85,7 +45,8 @@ public final class PromisesTest {
         return r;
     }
 
-    private static void aNewObject() {
+    @Says(promise = 1, value = "No BOATS; SHEETS of nothing.")
+    static void aNewObject() {
         LockTurns x = new LockTurns();
         row("rules of a new one", new int[] {5, 2, 0, 0, 0, 0, 0, 0}, rules(x));
         row("day of a new one", new int[] {0, 0, 0, 0, 0}, days(x, 0));
@@ -118,7 +79,8 @@ public final class PromisesTest {
         due.is("text() of nothing", 0, x.text());
     }
 
-    private static void feed() {
+    @Says(promise = 2, value = "A byte (0 to 127) comes behind THE TAPE: how many it has. BAD; FULL: more than 160.")
+    static void feed() {
         LockTurns x = new LockTurns();
         due.is("feed(-1)", BAD, x.feed(-1));
         due.is("feed(128)", BAD, x.feed(128));
@@ -132,7 +94,8 @@ public final class PromisesTest {
         due.is("count(3)", 160, x.count(3));
     }
 
-    private static void end() {
+    @Says(promise = 3, value = "THE TAPE keeps its first n bytes: how many it had. BAD.")
+    static void end() {
         LockTurns x = new LockTurns();
         Due.feed(x, "post 5;law");
         due.is("end(-1)", BAD, x.end(-1));
@@ -146,7 +109,9 @@ public final class PromisesTest {
         due.is("end(1)", BAD, x.end(1));
     }
 
-    private static void textTaken() {
+    @Says(promise = 4, value = "THE TAPE (empty then) tells all: how many lines; -10 less the place of its FAULT: "
+            + "that which was told stays.")
+    static void textTaken() {
         LockTurns x = Due.told("lock 9 0 1;law twos;post 9;hand;above mail 0 0 0;below coal 99 9 9;liar 1;");
         row("rules", new int[] {9, 0, 1, 2, 9, 1, 2, 2}, rules(x));
         due.is("count(3)", 0, x.count(3));
@@ -179,7 +144,9 @@ public final class PromisesTest {
         due.is("no boats", 0, x.rule(6));
     }
 
-    private static void textStays() {
+    @Says(promise = 4, value = "THE TAPE (empty then) tells all: how many lines; -10 less the place of its FAULT: "
+            + "that which was told stays.")
+    static void textStays() {
         LockTurns x = Due.told("lock 4 3 1;above fish 8 2 1;liar 0;");
         x.see(0, 0);
         x.keep(1);
@@ -194,7 +161,8 @@ public final class PromisesTest {
         due.is("hand", 1, x.rule(5));
     }
 
-    private static void faultNoToken() {
+    @Says("1 no TOKEN, a NUMBER that is too long (its first byte).")
+    static void faultNoToken() {
         LockTurns x = new LockTurns();
         due.faulty(x, "Lock", 1, 0);
         due.faulty(x, "post 5.", 1, 6);
@@ -209,7 +177,8 @@ public final class PromisesTest {
         due.faulty(x, "above mail 1 1-", 1, 14);
     }
 
-    private static void faultOutOfPlace() {
+    @Says("2 a TOKEN that can not stand there (a NAME that begins no line, is no K, no L; or the end: the length).")
+    static void faultOutOfPlace() {
         LockTurns x = new LockTurns();
         due.faulty(x, ";", 2, 0);
         due.faulty(x, " 5", 2, 1);
@@ -238,7 +207,8 @@ public final class PromisesTest {
         due.faulty(x, "hand;;", 2, 5);
     }
 
-    private static void faultOutOfBounds() {
+    @Says("3 a NUMBER out of its bounds.")
+    static void faultOutOfBounds() {
         LockTurns x = new LockTurns();
         due.faulty(x, "lock 0 2 0;", 3, 5);
         due.faulty(x, "lock 10 2 0;", 3, 5);
@@ -253,7 +223,8 @@ public final class PromisesTest {
         due.text(x, "lock 01 00 01;post 09;", 2);
     }
 
-    private static void faultTwice() {
+    @Says("4 lock, law, post, hand for the second time (its NAME); a BOAT that is told a liar already (it).")
+    static void faultTwice() {
         LockTurns x = new LockTurns();
         due.faulty(x, "lock 5 2 0;lock", 4, 11);
         due.faulty(x, "law gate;law gate;", 4, 9);
@@ -264,7 +235,8 @@ public final class PromisesTest {
         due.faulty(x, "liar 3;liar 4;liar  03", 4, 20);
     }
 
-    private static void faultBoats() {
+    @Says("5 the 7th BOAT (its NAME). Behind all (the length): 6 a BOAT that there is not.")
+    static void faultBoats() {
         LockTurns x = new LockTurns();
         String six = "above mail 1 1 1;below mail 1 1 1;above mail 1 1 1;below mail 1 1 1;above mail 1 1 1;"
                 + "below mail 1 1 1;";
@@ -281,7 +253,25 @@ public final class PromisesTest {
         due.is("boat(1, 5)", 1, x.boat(1, 5));
     }
 
-    private static void rule() {
+    @Says(promise = 5, value = "The FAULT of the latest text(); 0.")
+    static void fault() {
+        LockTurns x = new LockTurns();
+        due.is("there was no text", 0, x.fault());
+        String[] texts = {"!", ";", "post 10;", "hand;hand;", "liar 0;"};
+        int[] faults = {1, 2, 3, 4, 6};
+        for (int i = 0; i < texts.length; i++) {
+            Due.feed(x, texts[i]);
+            due.is("not asked yet", i == 0 ? 0 : faults[i - 1], x.fault());
+            x.text();
+            due.is("fault() of " + texts[i], faults[i], x.fault());
+            due.is("asked again", faults[i], x.fault());
+        }
+        due.text(x, "hand;", 1);
+        due.is("of the latest alone", 0, x.fault());
+    }
+
+    @Says(promise = 6, value = "0 PASS, 1 TURN, 2 READY, 3 LAW, 4 POST, 5 HAND, 6 BOATS, 7 who LIES (bits). BAD.")
+    static void rule() {
         LockTurns x = Due.told("lock 7 3 1;law queue;post 4;hand;above mail 1 2 3;below coal 4 5 6;liar 0;liar 1;");
         row("rules", new int[] {7, 3, 1, 4, 4, 1, 2, 3}, rules(x));
         due.is("rule(8)", BAD, x.rule(8));
@@ -290,7 +280,9 @@ public final class PromisesTest {
         due.is("rule(MAX)", BAD, x.rule(MAX));
     }
 
-    private static void boat() {
+    @Says(promise = 7, value = "Of a BOAT: 0 SIDE, 1 CARGO, 2 ARRIVES, 3 WORTH, 4 BOY, 5 whether it LIES (1, 0), 6 "
+            + "from when on it COUNTS. BAD.")
+    static void boat() {
         LockTurns x = Due.told("post 2;above mail 9 2 5;below coal 4 5 2;below fish 1 7 9;liar 1;");
         int[][] want = {{0, 0, 9, 2, 5, 0, 7}, {1, 3, 4, 5, 2, 1, 2}, {1, 1, 1, 7, 9, 0, 0}};
         for (int b = 0; b < 3; b++) {
@@ -308,7 +300,8 @@ public final class PromisesTest {
         due.is("boat(0, -1)", BAD, x.boat(0, -1));
     }
 
-    private static void set() {
+    @Says(promise = 8, value = "PASS, TURN, READY, LAW, POST, HAND (what 0 to 5) becomes v: what it was. BAD.")
+    static void set() {
         LockTurns x = Due.told("above mail 1 1 1;");
         int[] first = {5, 2, 0, 0, 0, 0};
         int[] least = {1, 0, 0, 0, 0, 0};
@@ -326,7 +319,8 @@ public final class PromisesTest {
         row("rules", new int[] {9, 9, 1, 4, 9, 1, 1, 0}, rules(x));
     }
 
-    private static void alter() {
+    @Says(promise = 9, value = "CARGO, ARRIVES, WORTH, BOY (what 1 to 4) of a BOAT becomes v: what it was. BAD.")
+    static void alter() {
         LockTurns x = Due.told("below fish 20 3 4;above mail 1 1 1;");
         int[] was = {1, 1, 20, 3, 4};
         int[] most = {1, 3, 99, 9, 9};
@@ -345,7 +339,8 @@ public final class PromisesTest {
         due.is("the other boat stays", 1, x.boat(1, 2));
     }
 
-    private static void lie() {
+    @Says(promise = 10, value = "A BOAT LIES, or not: whether it did. BAD.")
+    static void lie() {
         LockTurns x = Due.told(FISH_AND_COAL);
         due.is("lie(1, true)", 0, x.lie(1, true));
         due.is("lie(1, true)", 1, x.lie(1, true));
@@ -359,7 +354,8 @@ public final class PromisesTest {
         due.is("lie(-1, false)", BAD, x.lie(-1, false));
     }
 
-    private static void cross() {
+    @Says(promise = 11, value = "A BOAT comes from the other SIDE: from which it came. BAD.")
+    static void cross() {
         LockTurns x = Due.told("above mail 0 1 0;below mail 0 1 0;");
         due.is("cross(1)", 1, x.cross(1));
         due.is("boat(1, 0)", 0, x.boat(1, 0));
@@ -371,44 +367,74 @@ public final class PromisesTest {
         due.is("cross(-1)", BAD, x.cross(-1));
     }
 
-    private static void aDay() {
+    @Says(promise = 12, value = "The i-th BOAT that passes (from 0). BAD.")
+    static void passes() {
         LockTurns x = Due.told(FIVE);
         row("gate", new int[] {0, 1, 2, 3, 4}, passing(x));
         x.set(3, 2);
         row("twos", new int[] {0, 2, 1, 3, 4}, passing(x));
-        int[] through = {3, 10, 7, 14, 17};
-        int[] stood = {0, 7, 4, 11, 13};
-        for (int b = 0; b < 5; b++) {
-            due.is("through", through[b], x.through(b));
-            due.is("stood", stood[b], x.stood(b));
-        }
-        due.is("day(0)", 135, x.day(0));
-        due.is("day(1)", 13, x.day(1));
-        due.is("day(2)", 4, x.day(2));
-        due.is("day(3)", 17, x.day(3));
-        due.is("day(4)", 2, x.day(4));
         x.set(3, 3);
         x.lie(4, true);
         row("mail ahead, and who tells so", new int[] {0, 4, 1, 2, 3}, passing(x));
         LockTurns q = Due.told(QUEUES);
         row("queue", new int[] {1, 0, 2}, passing(q));
+        q.set(3, 1);
+        row("ready", new int[] {0, 1, 2}, passing(q));
+        due.is("passes(3)", BAD, q.passes(3));
+        due.is("passes(-1)", BAD, q.passes(-1));
+        due.is("passes(MAX)", BAD, q.passes(MAX));
+        due.is("passes(MIN)", BAD, q.passes(MIN));
+    }
+
+    @Says(promise = 13, value = "When a BOAT is THROUGH. BAD.")
+    static void through() {
+        LockTurns x = Due.told(FIVE + "law twos;");
+        int[] through = {3, 10, 7, 14, 17};
+        for (int b = 0; b < 5; b++) {
+            due.is("through(" + b + ")", through[b], x.through(b));
+        }
+        LockTurns q = Due.told(QUEUES);
+        q.set(3, 1);
+        due.is("turned for the third", 12, q.through(2) - q.through(0));
+        due.is("through(3)", BAD, q.through(3));
+        due.is("through(-1)", BAD, q.through(-1));
+        due.is("through(MAX)", BAD, q.through(MAX));
+        due.is("through(MIN)", BAD, q.through(MIN));
+    }
+
+    @Says(promise = 14, value = "How long a BOAT STOOD. BAD.")
+    static void stood() {
+        LockTurns x = Due.told(FIVE + "law twos;");
+        int[] stood = {0, 7, 4, 11, 13};
+        for (int b = 0; b < 5; b++) {
+            due.is("stood(" + b + ")", stood[b], x.stood(b));
+        }
+        LockTurns q = Due.told(QUEUES);
         due.is("stood(0)", 7, q.stood(0));
         due.is("stood(1)", 2, q.stood(1));
         due.is("stood(2)", 12, q.stood(2));
-        q.set(3, 1);
-        row("ready", new int[] {0, 1, 2}, passing(q));
-        due.is("turned for the third", 12, q.through(2) - q.through(0));
-        due.is("passes(3)", BAD, q.passes(3));
-        due.is("passes(-1)", BAD, q.passes(-1));
-        due.is("through(3)", BAD, q.through(3));
-        due.is("through(-1)", BAD, q.through(-1));
         due.is("stood(3)", BAD, q.stood(3));
         due.is("stood(-1)", BAD, q.stood(-1));
-        due.is("day(5)", BAD, q.day(5));
-        due.is("day(-1)", BAD, q.day(-1));
+        due.is("stood(MAX)", BAD, q.stood(MAX));
+        due.is("stood(MIN)", BAD, q.stood(MIN));
     }
 
-    private static void anIdleLock() {
+    @Says(promise = 15, value = "Of the DAY: 0 COST, 1 the longest that one STOOD, 2 WATER, 3 when the last one is "
+            + "THROUGH (0: there are none), 4 how often THE LOCK is turned. BAD.")
+    static void day() {
+        LockTurns x = Due.told(FIVE + "law twos;");
+        due.is("day(0)", 135, x.day(0));
+        due.is("day(1)", 13, x.day(1));
+        due.is("day(2)", 4, x.day(2));
+        due.is("day(3)", 17, x.day(3));
+        due.is("day(4)", 2, x.day(4));
+        due.is("day(5)", BAD, x.day(5));
+        due.is("day(-1)", BAD, x.day(-1));
+        due.is("day(3) of none", 0, new LockTurns().day(3));
+    }
+
+    @Says("do none count, it is free till the first one does")
+    static void anIdleLock() {
         LockTurns x = Due.told("below coal 10 3 0;");
         row("turned when it counts", new int[] {6, 2, 1, 17, 1}, days(x, 0));
         x.set(4, 1);
@@ -425,7 +451,8 @@ public final class PromisesTest {
         due.is("turned by the time the next counts", 2, y.stood(0));
     }
 
-    private static void table() {
+    @Says(promise = 16, value = "Likewise, were the LAW so. BAD.")
+    static void table() {
         LockTurns x = Due.told(FIVE);
         int[] plain = {115, 11, 3, 15, 0};
         row("gate", plain, days(x, 0));
@@ -443,7 +470,8 @@ public final class PromisesTest {
         due.is("table(0, -1)", BAD, x.table(0, -1));
     }
 
-    private static void best() {
+    @Says(promise = 17, value = "The LAW by which that (0 to 4, as told above) is least, of several the first. BAD.")
+    static void best() {
         LockTurns x = Due.told(FIVE + "liar 4;law twos;");
         due.is("best(0)", 3, x.best(0));
         due.is("best(1)", 0, x.best(1));
@@ -458,7 +486,9 @@ public final class PromisesTest {
         due.is("least turned by ready", 1, y.best(4));
     }
 
-    private static void order() {
+    @Says(promise = 18, value = "All BOATS in some order, whatever counts (THE LOCK waits for each): the least COST "
+            + "(what 0), 10 and i: the i-th one of the first such order by numbers. BAD.")
+    static void order() {
         LockTurns x = Due.told("above coal 0 1 0;above beer 1 9 0;below mail 20 9 0;");
         due.is("order(0)", 8, x.order(0));
         due.is("order(10)", 1, x.order(10));
@@ -478,7 +508,8 @@ public final class PromisesTest {
         due.is("the first by numbers", 1, z.order(11));
     }
 
-    private static void firsts() {
+    @Says(promise = 19, value = "LAWS by which a BOAT passes first of all (bits). BAD.")
+    static void firsts() {
         LockTurns x = Due.told("below coal 0 1 0;above fish 0 1 0;below fish 0 1 0;");
         due.is("firsts(0): gate, queue", 1 + 16, x.firsts(0));
         due.is("firsts(1): ready, twos, cargo", 2 + 4 + 8, x.firsts(1));
@@ -490,7 +521,9 @@ public final class PromisesTest {
         due.is("firsts(-1)", BAD, x.firsts(-1));
     }
 
-    private static void gain() {
+    @Says(promise = 20, value = "1000 and by how many minutes it STOOD less, would a BOAT LIE that does not, would "
+            + "it not that does. BAD.")
+    static void gain() {
         LockTurns x = Due.told(FISH_AND_COAL);
         due.is("gain(1)", 1007, x.gain(1));
         due.is("gain(0)", 1000, x.gain(0));
@@ -504,22 +537,36 @@ public final class PromisesTest {
         due.is("gain(-1)", BAD, x.gain(-1));
     }
 
-    private static void calmAndRests() {
+    @Says(promise = 21, value = "LAWS by which no BOAT gains so, LIES being as they are (bits).")
+    static void calm() {
         LockTurns x = Due.told(FISH_AND_COAL);
-        due.is("calm()", 23, x.calm());
-        due.is("rests(0)", 2, x.rests(0));
-        due.is("rests(1)", 1, x.rests(1));
+        due.is("coal gains by cargo", 1 + 2 + 4 + 16, x.calm());
         x.lie(0, true);
         due.is("calm(), the first one lies", 31, x.calm());
+        x.set(3, 4);
+        due.is("calm() is of all laws", 31, x.calm());
+        due.is("the liars stay", 1, x.rule(7));
+    }
+
+    @Says(promise = 22, value = "Sets of liars by which, by the LAW, no BOAT gains so: how many (what 0), the least "
+            + "by bits (1). BAD; NONE (1): there is none.")
+    static void rests() {
+        LockTurns x = Due.told(FISH_AND_COAL);
+        due.is("fish alone lies, or both", 2, x.rests(0));
+        due.is("rests(1)", 1, x.rests(1));
+        x.lie(1, true);
+        due.is("whoever lies now", 2, x.rests(0));
         x.set(3, 4);
         due.is("rests(0) by queue", 4, x.rests(0));
         due.is("rests(1) by queue", 0, x.rests(1));
         due.is("rests(2)", BAD, x.rests(2));
         due.is("rests(-1)", BAD, x.rests(-1));
-        due.is("the liars stay", 1, x.rule(7));
+        due.is("the liars stay", 2, x.rule(7));
     }
 
-    private static void boy() {
+    @Says(promise = 23, value = "The least BOY (0 to 9) of a BOAT by which it passes ahead of another one. BAD (also "
+            + "alike); NONE: by none.")
+    static void boy() {
         LockTurns x = Due.told("hand;above coal 3 1 0;above mail 2 1 0;");
         due.is("boy(0, 1)", 1, x.boy(0, 1));
         due.is("boy(1, 0)", 0, x.boy(1, 0));
@@ -541,7 +588,9 @@ public final class PromisesTest {
         due.is("by nine", 9, y.boy(0, 1));
     }
 
-    private static void post() {
+    @Says(promise = 24, value = "The POST (0 to 9) by which COST of the DAY is least, of several the least (what 0), "
+            + "that COST (1). BAD.")
+    static void post() {
         LockTurns x = Due.told("below coal 10 3 0;");
         due.is("post(0)", 2, x.post(0));
         due.is("post(1)", 0, x.post(1));
@@ -555,7 +604,9 @@ public final class PromisesTest {
         due.is("the post stays", 0, x.rule(4));
     }
 
-    private static void late() {
+    @Says(promise = 25, value = "By how many minutes (0 to 60) at most a BOAT could ARRIVE later and be THROUGH no "
+            + "later than now. BAD.")
+    static void late() {
         LockTurns x = Due.told("above coal 0 1 0;below mail 1 1 0;below mail 2 1 0;");
         due.is("late(0)", 0, x.late(0));
         due.is("as early as the third and of a lesser number", 1, x.late(1));
@@ -571,7 +622,10 @@ public final class PromisesTest {
         due.is("60 at most", 60, z.late(5));
     }
 
-    private static void deal() {
+    @Says(promise = 26, value = "Two BOATS change places in the order in which BOATS pass now (then as by order()): "
+            + "10000 and what the first one's STOOD times WORTH is less by (what 0), the second one's (1), that of "
+            + "all (2). BAD (also alike).")
+    static void deal() {
         LockTurns x = Due.told("above coal 0 1 0;above beer 1 9 0;below mail 20 5 0;");
         due.is("what the first one has", 10000 - 8, x.deal(0, 1, 0));
         due.is("what the second one has", 10000 + 54, x.deal(0, 1, 1));
@@ -587,7 +641,9 @@ public final class PromisesTest {
         due.is("deal(0, 1, 2)", 10000 + 4, y.deal(0, 1, 2));
     }
 
-    private static void mean() {
+    @Says(promise = 27, value = "Each liar is SEEN THROUGH by v out of ten (0 to 10), by itself: the mean of how "
+            + "long a BOAT STOOD: 0, 1. BAD.")
+    static void mean() {
         LockTurns x = Due.told(FISH_AND_COAL + "liar 1;");
         due.is("mean(3, 1, 0)", 21, x.mean(3, 1, 0));
         due.is("mean(3, 1, 1)", 10, x.mean(3, 1, 1));
@@ -613,7 +669,8 @@ public final class PromisesTest {
         due.is("behind coal", 7, y.mean(10, 0, 0));
     }
 
-    private static void luck() {
+    @Says(promise = 28, value = "Likewise, that a BOAT is the i-th one that passes: 0, 1. BAD.")
+    static void luck() {
         LockTurns x = Due.told(FISH_AND_COAL + "liar 1;");
         due.is("luck(3, 1, 0, 0)", 7, x.luck(3, 1, 0, 0));
         due.is("luck(3, 1, 0, 1)", 10, x.luck(3, 1, 0, 1));
@@ -633,17 +690,28 @@ public final class PromisesTest {
         due.is("luck(0, 0, 0, -1)", BAD, x.luck(0, 0, 0, -1));
     }
 
-    private static void seeAndForget() {
+    @Says(promise = 29, value = "SEEN: the i-th one that passed was a BOAT: how many are. BAD; FULL.")
+    static void see() {
         LockTurns x = Due.told(FISH_AND_COAL);
         due.is("see(0, 2)", BAD, x.see(0, 2));
         due.is("see(0, -1)", BAD, x.see(0, -1));
         due.is("see(2, 0)", BAD, x.see(2, 0));
         due.is("see(-1, 0)", BAD, x.see(-1, 0));
+        due.is("none is seen", 0, x.count(1));
         for (int n = 1; n <= 6; n++) {
             due.is("see(0, 1)", n, x.see(0, 1));
         }
         due.is("the 7th", FULL, x.see(0, 1));
         due.is("the 7th, no boat", BAD, x.see(0, 2));
+        due.is("six are seen", 6, x.count(1));
+    }
+
+    @Says(promise = 30, value = "SEEN are the first n alone: how many there were. BAD.")
+    static void forget() {
+        LockTurns x = Due.told(FISH_AND_COAL);
+        for (int n = 1; n <= 6; n++) {
+            x.see(0, 1);
+        }
         due.is("forget(7)", BAD, x.forget(7));
         due.is("forget(-1)", BAD, x.forget(-1));
         due.is("forget(6)", 6, x.forget(6));
@@ -652,9 +720,12 @@ public final class PromisesTest {
         due.is("see(1, 0)", 3, x.see(1, 0));
         due.is("forget(0)", 3, x.forget(0));
         due.is("count(1)", 0, x.count(1));
+        due.is("forget(0) of none", 0, x.forget(0));
     }
 
-    private static void fits() {
+    @Says(promise = 31, value = "LAWS and sets of liars that FIT: how many pairs (what 0), LAWS that are in some (1; "
+            + "bits), BOATS that LIE in all of them (2), in none (3; bits). BAD; NONE (2, 3): there is none.")
+    static void fits() {
         LockTurns x = Due.told(FISH_AND_COAL);
         due.is("fits(0)", 20, x.fits(0));
         due.is("fits(1)", 31, x.fits(1));
@@ -684,7 +755,10 @@ public final class PromisesTest {
         due.is("fits(3)", 2, y.fits(3));
     }
 
-    private static void drift() {
+    @Says(promise = 32, value = "By itself, n DAYS (1 to 20) by a seed: in each for each BOAT by order the seed "
+            + "becomes seed times 1103515245 and 12345; it ARRIVES by bits 16 to 30 of it modulo 40: COST of all, "
+            + "summed (what 0), WATER (1). BAD.")
+    static void drift() {
         LockTurns x = Due.told("below mail 9 3 0;");
         due.is("each day it is turned", 6 * 20, x.drift(12345, 20, 0));
         due.is("drift(12345, 20, 1)", 20, x.drift(12345, 20, 1));
@@ -699,7 +773,26 @@ public final class PromisesTest {
         due.is("drift(0, 1, 1)", 2, y.drift(0, 1, 1));
     }
 
-    private static void images() {
+    @Says(promise = 33, value = "IMAGE k (0, 1) is THE LOCK, LAW, POST, HAND, BOATS (all of them), what was SEEN: "
+            + "whether there was one (1, 0). BAD.")
+    static void keep() {
+        LockTurns x = Due.told("above coal 0 1 2;");
+        due.is("keep(-1)", BAD, x.keep(-1));
+        due.is("keep(2)", BAD, x.keep(2));
+        due.is("no image", 0, x.count(2));
+        due.is("keep(1)", 0, x.keep(1));
+        due.is("keep(0)", 0, x.keep(0));
+        due.is("keep(1) again", 1, x.keep(1));
+        due.is("two images", 2, x.count(2));
+        x.alter(0, 2, 9);
+        due.is("keep(0) in place of what it was", 1, x.keep(0));
+        x.alter(0, 2, 20);
+        due.is("image 0: it arrives at 9", 14, x.back(0));
+        due.is("image 1: it arrives at 0", 5, x.back(1));
+    }
+
+    @Says(promise = 34, value = "All is as IMAGE k: when the last one is THROUGH. BAD; STATE: there is none.")
+    static void back() {
         LockTurns x = Due.told("above coal 0 1 2;below mail 0 1 0;liar 0;");
         due.is("keep(-1)", BAD, x.keep(-1));
         due.is("keep(2)", BAD, x.keep(2));
@@ -739,7 +832,8 @@ public final class PromisesTest {
         due.is("images stay", 2, x.count(2));
     }
 
-    private static void sheets() {
+    @Says(promise = 35, value = "A SHEET is a new row of CELLS 0: 1. BAD: also n above 40; -10 - 4.")
+    static void sheets() {
         LockTurns x = new LockTurns();
         due.is("sheet(4, 0, 1)", BAD, x.sheet(4, 0, 1));
         due.is("sheet(-1, 0, 1)", BAD, x.sheet(-1, 0, 1));
@@ -763,7 +857,9 @@ public final class PromisesTest {
         due.is("a new row is of 0", 0, y.boat(0, 2));
     }
 
-    private static void lay() {
+    @Says(promise = 36, value = "CELL i of a SHEET becomes v (its lowest bits): 1. BAD: k; -10 less the FAULT: NULL, "
+            + "INDEX.")
+    static void lay() {
         LockTurns x = Due.told("above mail 5 1 0;above mail 5 1 0;");
         due.is("lay(-1, 0, 0)", BAD, x.lay(-1, 0, 0));
         due.is("lay(4, 0, 0)", BAD, x.lay(4, 0, 0));
@@ -785,7 +881,11 @@ public final class PromisesTest {
         due.is("a whole int is refused", -20, x.read(2, 2, 0, 1));
     }
 
-    private static void read() {
+    @Says(promise = 37, value = "n (0 to 20) times a BOAT, when it ARRIVES are read of a SHEET taken as of a lane, "
+            + "two CELLS each from CELL f on, one behind another as by alter(): how many came. What the machine "
+            + "refuses: those that were whole ahead come (its FAULT is asked by torn()). BAD: k, lane, n; -20 less "
+            + "i: the i-th, whole, is refused by alter(): then none came; the first met.")
+    static void read() {
         LockTurns x = Due.told("above mail 5 1 0;above mail 6 1 0;");
         due.is("read(-1, 0, 0, 1)", BAD, x.read(-1, 0, 0, 1));
         due.is("read(4, 0, 0, 1)", BAD, x.read(4, 0, 0, 1));
@@ -821,7 +921,8 @@ public final class PromisesTest {
         due.is("torn()", 0, x.torn());
     }
 
-    private static void torn() {
+    @Says(promise = 38, value = "The FAULT of the latest read() that came to an end; 0.")
+    static void torn() {
         LockTurns x = Due.told("above mail 5 1 0;");
         due.is("nothing", 0, x.read(1, 2, 0, 1));
         due.is("torn()", 1, x.torn());
@@ -846,7 +947,8 @@ public final class PromisesTest {
     }
 
     /** Nothing is read by n 0, so it has no fault, whatever the sheet, the lane, the cell; by n above 0 it has. */
-    private static void tornByNone() {
+    @Says(promise = 38, value = "The FAULT of the latest read() that came to an end; 0.")
+    static void tornByNone() {
         int[] froms = {MIN, -1, 0, 1, 39, 40, MAX};
         for (int k = 0; k < 4; k++) {
             for (int of = -1; of < 3; of++) {
@@ -882,7 +984,9 @@ public final class PromisesTest {
         due.is("torn(), " + sheet, 0, x.torn());
     }
 
-    private static void count() {
+    @Says(promise = 39, value = "How many: 0 BOATS from above, 1 SEEN, 2 IMAGES, 3 bytes on THE TAPE, 4 CELLS of "
+            + "SHEET 0 (NONE: nothing), 5 who LIE. BAD.")
+    static void count() {
         LockTurns x = Due.told("above mail 5 1 0;below mail 5 1 0;above mail 5 1 0;liar 1;liar 2;");
         x.see(0, 0);
         x.keep(1);

@@ -71,7 +71,7 @@ public final class TextBoundsTest {
         due.is("back(1)", STATE, x.back(1));
     }
 
-    @Says("An object is used for at most 512 calls after it has been made")
+    @Says("An object is used for at most 512 calls after it has been made; what later calls answer is free.")
     static void theLastOfItsCalls() {
         LockTurns x = new LockTurns();
         int calls = 0;
