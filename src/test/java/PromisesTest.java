@@ -463,6 +463,11 @@ public final class PromisesTest {
         x.lie(4, true);
         row("cargo with a liar", new int[] {111, 13, 3, 16, 1}, days(x, 3));
         row("gate with a liar", plain, days(x, 0));
+        x.lie(4, false);
+        x.lie(0, true);
+        row("mail that tells mail", plain, days(x, 3));
+        x.alter(0, 1, 3);
+        row("coal that tells mail", plain, days(x, 3));
         due.is("the law stays", 0, x.rule(3));
         due.is("table(5, 0)", BAD, x.table(5, 0));
         due.is("table(-1, 0)", BAD, x.table(-1, 0));
@@ -484,6 +489,13 @@ public final class PromisesTest {
         LockTurns y = Due.told("below mail 0 1 0;above mail 0 1 0;");
         due.is("least cost by ready", 1, y.best(0));
         due.is("least turned by ready", 1, y.best(4));
+        LockTurns z = Due.told("above fish 0 1 0;above coal 0 9 0;liar 1;");
+        due.is("coal that lies costs less by cargo", 3, z.best(0));
+        // By gate fish stands 6, coal 12 minutes, by cargo coal that lies 5, fish 13.
+        LockTurns w = Due.told("above coal 2 9 0;above fish 1 1 0;above mail 0 1 0;liar 0;");
+        due.is("table(0, 0)", 6 + 12 * 9, w.table(0, 0));
+        due.is("table(3, 0)", 5 * 9 + 13, w.table(3, 0));
+        due.is("the first one lies", 3, w.best(0));
     }
 
     @Says(promise = 18, value = "All BOATS in some order, whatever counts (THE LOCK waits for each): the least COST "
@@ -506,6 +518,15 @@ public final class PromisesTest {
         due.is("all alike", 0, z.order(0));
         due.is("the first by numbers", 0, z.order(10));
         due.is("the first by numbers", 1, z.order(11));
+        due.is("the first by numbers", 2, z.order(12));
+        due.is("free at 0", 7, Due.told("above mail 0 1 0;above mail 0 1 0;").order(0));
+        due.is("turned at 0", 2, Due.told("below mail 0 1 0;").order(0));
+        // From below each is turned for: 2, then 7 and 14 later.
+        LockTurns t = Due.told("below mail 0 1 0;below mail 0 5 0;below mail 0 9 0;");
+        due.is("the dearest first", 2 * 9 + 9 * 5 + 16, t.order(0));
+        due.is("order(10)", 2, t.order(10));
+        due.is("order(11)", 1, t.order(11));
+        due.is("order(12)", 0, t.order(12));
     }
 
     @Says(promise = 19, value = "LAWS by which a BOAT passes first of all (bits). BAD.")
@@ -517,6 +538,7 @@ public final class PromisesTest {
         x.lie(2, true);
         due.is("firsts(1)", 2 + 4, x.firsts(1));
         due.is("firsts(2)", 8, x.firsts(2));
+        due.is("the first one lies", 31, Due.told("above coal 0 1 0;above mail 0 1 0;liar 0;").firsts(0));
         due.is("firsts(3)", BAD, x.firsts(3));
         due.is("firsts(-1)", BAD, x.firsts(-1));
     }
@@ -545,6 +567,8 @@ public final class PromisesTest {
         due.is("calm(), the first one lies", 31, x.calm());
         x.set(3, 4);
         due.is("calm() is of all laws", 31, x.calm());
+        due.is("by a minute alone", 23, Due.told("lock 1 0 0;above fish 0 1 0;above coal 0 1 0;").calm());
+        due.is("the first one alone", 23, Due.told("above coal 0 1 0;above fish 0 1 0;").calm());
         due.is("the liars stay", 1, x.rule(7));
     }
 
@@ -586,6 +610,8 @@ public final class PromisesTest {
         due.is("by none", NONE, y.boy(0, 1));
         y.alter(0, 2, 22);
         due.is("by nine", 9, y.boy(0, 1));
+        y.alter(0, 2, 23);
+        due.is("ten would be too many", NONE, y.boy(0, 1));
     }
 
     @Says(promise = 24, value = "The POST (0 to 9) by which COST of the DAY is least, of several the least (what 0), "
@@ -771,6 +797,19 @@ public final class PromisesTest {
         LockTurns y = Due.told("above mail 0 1 0;above mail 0 1 0;");
         due.is("drift(0, 1, 0)", 2, y.drift(0, 1, 0));
         due.is("drift(0, 1, 1)", 2, y.drift(0, 1, 1));
+        // From 1 those bits are 16838 5758, 10113 17515, 31051 5627, 23010 7419, 16212 4086, as of the C of old:
+        // they arrive at 38 38, 33 35, 11 27, 10 19, 12 6; the second one stands 7, 5, 2, 2, 0, the first one then 2.
+        y.alter(1, 3, 3);
+        int[] costs = {21, 15, 6, 6, 2};
+        int cost = 0;
+        for (int n = 1; n <= 5; n++) {
+            cost += costs[n - 1];
+            due.is("drift(1, " + n + ", 0)", cost, y.drift(1, n, 0));
+            due.is("drift(1, " + n + ", 1)", 2 * n, y.drift(1, n, 1));
+        }
+        LockTurns z = Due.told("above mail 0 0 0;".repeat(6));
+        due.is("six that cost nothing", 0, z.drift(1, 20, 0));
+        due.is("the water of six", 6 * 20, z.drift(1, 20, 1));
     }
 
     @Says(promise = 33, value = "IMAGE k (0, 1) is THE LOCK, LAW, POST, HAND, BOATS (all of them), what was SEEN: "
@@ -906,6 +945,14 @@ public final class PromisesTest {
         due.is("half a pair is not whole", 0, x.read(0, 1, 6, 1));
         due.is("torn()", 2, x.torn());
         due.is("no such boat", -20, x.read(0, 1, 0, 2));
+        x.lay(0, 2, -1);
+        due.is("a minute below 0", -20, x.read(0, 1, 1, 1));
+        x.lay(0, 2, 100);
+        due.is("a minute above 99", -20, x.read(0, 1, 1, 1));
+        x.lay(0, 1, -1);
+        x.lay(0, 2, 40);
+        due.is("a boat below 0", -20, x.read(0, 1, 1, 1));
+        x.lay(0, 1, 1);
         due.is("boat(0, 2) stays", 7, x.boat(0, 2));
         x.lay(0, 5, 2);
         due.is("the third is refused: none came", -22, x.read(0, 1, 1, 3));

@@ -278,6 +278,8 @@ public final class TermsTest {
     @Says("2 a TOKEN that can not stand there (a NAME that begins no line, is no K, no L; or the end: the length).")
     static void faultTwo() {
         due.faulty("gate;", 2, 0);
+        due.faulty("dock 5 2 0;", 2, 0);
+        due.faulty("az;", 2, 0);
         due.faulty("above gate 1 1 1;", 2, 6);
         due.faulty("law mail;", 2, 4);
         due.faulty("post;", 2, 4);
